@@ -41,13 +41,16 @@ public final class DeedsTest {
         Due.is("tick(1) without a line", none.tick(1), NOT);
         EdgeEchoes full = Due.lineOf("d1 1;");
         // 512 calls do not come this far; what later calls answer is free, but this keeps FULL tested.
-        for (int k = 0; k < 1801; k++) {
+        for (int k = 0; k < 1800; k++) {
             Due.is("tick(50) on", full.tick(50), 50 * (k + 1));
         }
+        Due.is("drift(50) at 90000", full.drift(50), 90050);
+        full.undo(1);
+        Due.is("tick(1) at 90000", full.tick(1), 90001);
         Due.is("tick(1) above 90000", full.tick(1), EdgeEchoes.FULL);
         Due.is("drift(1) above 90000", full.drift(1), EdgeEchoes.FULL);
         Due.is("tick(51) above 90000", full.tick(51), OUTSIDE);
-        Due.is("ticks stay", full.told(10), 90050);
+        Due.is("ticks stay", full.told(10), 90001);
     }
 
     /** A driver and an end that both throw all back: each round adds S, till the bound. */
@@ -183,6 +186,11 @@ public final class DeedsTest {
         Due.is("end(1, 100)", x.end(1, 100), 0);
         Due.is("end(2, 1)", x.end(2, 1), 1);
         Due.is("end(2, 99)", x.end(2, 99), 2);
+        EdgeEchoes full = Due.lineOf("d10 6;p20 9;p20 9;p20 9;p20 9;p20 9;p20 9;p20 9;p20 9;e2 60;");
+        full.drive(true);
+        full.tick(50);
+        full.tick(23);
+        Due.is("60 ohms behind 72 cells", full.cell(71, 2), 1002000);
         EdgeEchoes none = new EdgeEchoes();
         Due.is("end(3, 1) without a line", none.end(3, 1), OUTSIDE);
         Due.is("end(2, 1) without a line", none.end(2, 1), NOT);

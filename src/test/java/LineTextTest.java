@@ -83,6 +83,9 @@ public final class LineTextTest {
         x.keep(0);
         x.keep(1);
         x.cut(2);
+        // Trials with all that could be left over by them.
+        x.told(12);
+        x.sees(0, 9, 1);
         Due.is("line anew", Due.told(x, "d1 2;p3 4;p5 6;g0 1 2;g1 2 3;"), 10);
         int[] due = {1, 2, 10, 2, 0, 1, 2, 0, 0, 0, 0, 0};
         for (int what = 0; what < due.length; what++) {

@@ -85,7 +85,7 @@ public final class ModelTest {
             return " ".repeat(random.nextInt(3));
         }
         StringBuilder s = new StringBuilder(clause('d', from(0, 99), random.nextInt(3) == 0 ? from(1, 99) : from(1, 9)));
-        int pieces = random.nextInt(10) == 0 ? from(0, 8) : from(1, 4);
+        int pieces = random.nextInt(10) == 0 ? from(0, 8) : cellsTold == 9 ? from(5, 8) : from(1, 4);
         boolean end = random.nextInt(4) > 0;
         int gates = from(0, 6);
         for (int p = 0; p < pieces; p++) {

@@ -131,24 +131,37 @@ public final class SeenTest {
         Due.is("look(): mended", x.look(), 6);
         EdgeEchoes two = Due.lineOf("d10 6;p10 2;e2 10;");
         Due.is("look(): one place", two.look(), 2);
-        // The parts come later than 60 ticks when the only whole places lie further away than that.
-        EdgeEchoes far = Due.lineOf("d10 6;p10 9;p10 9;p10 9;p10 9;p10 9;");
-        for (int i = 1; i < 45; i++) {
-            if (i != 30 && i != 31) {
-                far.see(1, 0, true);
-            }
-        }
-        far.tear();
-        Due.is("look(): 44 places", far.look(), lookByHand());
+        lookAtItsEdges();
     }
 
-    /** Like ohms and an open end: cuts and shorts up to place i tell behind 2 i ticks. */
+    private static void lookAtItsEdges() {
+        String cells = "p10 9;p10 9;p10 9;p10 9;p10 9;p10 9;p10 9;p10 9;e2 10;";
+        EdgeEchoes x = Due.lineOf("d10 6;" + cells);
+        Due.is("look(): 71 places", x.look(), lookByHand());
+        Due.is("couldBe(0): 71 places", x.couldBe(0), 142);
+        Due.is("couldBe(2): 71 places", x.couldBe(2), 143);
+        // A cut at 30 or 31: they part behind 60, the last to look at.
+        x.see(58, 3001, false);
+        x.see(62, 6000, true);
+        could(x, "a cut at 30 or 31", 2, 60, 62);
+        Due.is("look(): behind 60", x.look(), 60);
+        x.tear();
+        x.see(60, 3001, false);
+        x.see(64, 6000, true);
+        could(x, "a cut at 31 or 32", 2, 62, 64);
+        Due.is("look(): they part behind 62", x.look(), NONE);
+        // Behind 61 the greatest part would be 1, but that is not looked at.
+        EdgeEchoes y = Due.lineOf("d3 2;p38 8;p50 1;e2 26;");
+        Due.is("look(): not behind 61", y.look(), 25);
+    }
+
+    /** Of like ohms throughout: a cut or a short at place i tells behind 2 times i ticks, for good. */
     private static int lookByHand() {
         int best = NONE;
-        int fewest = 88;
+        int fewest = 142;
         for (int t = 1; t <= 60; t++) {
-            int cuts = Math.min(44, t / 2);
-            int most = Math.max(cuts, 88 - 2 * cuts);
+            int cuts = t / 2;
+            int most = Math.max(cuts, 142 - 2 * cuts);
             if (most < fewest) {
                 fewest = most;
                 best = t;

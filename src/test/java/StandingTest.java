@@ -76,10 +76,35 @@ public final class StandingTest {
         Due.is("DRIVER for 60", y.told(13), 60);
         EdgeEchoes far = Due.lineOf("d1 1;p2 9;p2 9;p2 9;p2 9;p2 9;p2 9;p2 9;p2 9;");
         Due.is("COMES BACK over 72 cells", far.told(14), 144);
+        toldAtTheirEdges();
         EdgeEchoes none = Due.lineOf("d5 5;");
         Due.is("OVER without cells", none.told(12), 0);
         Due.is("DRIVER without cells", none.told(13), 0);
         Due.is("COMES BACK without cells", none.told(14), NONE);
+    }
+
+    private static void toldAtTheirEdges() {
+        // The highest is the last that OVER looks at, behind 200 ticks.
+        EdgeEchoes late = Due.lineOf("d7 9;p98 5;p1 8;e0 27;");
+        EdgeEchoes ticked = Due.lineOf("d7 9;p98 5;p1 8;e0 27;");
+        ticked.drive(true);
+        int over = 0;
+        for (int t = 1; t <= 200; t++) {
+            ticked.tick(1);
+            over = Math.max(over, ticked.cell(12, 0) - 1009000);
+            Due.holds("not ahead of 200", t == 200 || over < 1764);
+        }
+        Due.is("highest by ticks", over, 1764);
+        Due.is("OVER behind 200", late.told(12), 1764);
+        // Of like ones, the least; and the last ohms, too.
+        EdgeEchoes like = Due.lineOf("d33 1;p85 2;p98 6;e0 71;");
+        Due.is("DRIVER of like ones", like.told(13), 98);
+        like.ohms(98);
+        Due.is("OVER of 98", like.told(12), 2);
+        like.ohms(99);
+        Due.is("OVER of 99", like.told(12), 2);
+        EdgeEchoes most = Due.lineOf("d33 1;p99 1;");
+        Due.is("DRIVER of 99", most.told(13), 99);
     }
 
     private static void wire() {
@@ -164,7 +189,11 @@ public final class StandingTest {
         Due.is("gate(2, 9)", x.gate(2, 9), UNKNOWN);
         Due.is("gate(0, 6)", x.gate(0, 6), OUTSIDE);
         Due.is("gate(0, -1)", x.gate(0, -1), OUTSIDE);
-        // 200 ticks, the last that FIRST looks at: a slow wave by 99 to 1 ohms takes long enough.
+        // 2 volts, 4 with the echo, 5.6 with the second edge, behind 2 times 72 and 56 ticks at cell 55.
+        EdgeEchoes last = Due.lineOf("d90 20;p10 9;p10 9;p10 9;p10 9;p10 9;p10 9;p10 9;p10 9;g0 55 5;g0 56 5;");
+        last.drive(true);
+        Due.is("gate(0, 5) behind 200", last.gate(0, 5), 200);
+        Due.is("gate(1, 5) behind 201", last.gate(1, 5), NONE);
         EdgeEchoes late = Due.lineOf("d0 1;p1 9;p1 9;p1 9;p1 9;p1 9;p1 9;p1 9;p1 9;g0 71 2;g0 0 1;");
         late.drive(true);
         Due.is("gate(0, 5) behind the end", late.gate(0, 5), 73);

@@ -76,9 +76,20 @@ public final class TriedTest {
         EdgeEchoes swing = Due.lineOf("d0 6;p10 1;");
         swing.drive(true);
         Due.is("a swing", swing.rest(0), 200);
+        restEdge("d60 1;p60 2;e2 65;", 20, 1);
+        restEdge("d57 1;p57 2;e2 62;", 21, 4);
+        restEdge("d50 2;p50 2;e2 48;", -20, 1);
         restAsTold("d5 9;p20 3;p70 4;e0 1;");
         restAsTold("d40 1;p20 3;p70 4;p3 1;e2 60;");
         restAsTold("d98 99;p1 2;e0 1;");
+    }
+
+    /** A driver of the wire's ohms: one echo, and all is at rest. */
+    private static void restEdge(String text, int echo, int rest) {
+        EdgeEchoes x = Due.lineOf(text);
+        x.drive(true);
+        Due.is("echo of " + text, x.volts(0, 200, 0) - x.volts(0, 3, 0), echo);
+        Due.is("rest(0) of " + text, x.rest(0), rest);
     }
 
     private static void restAsTold(String text) {
