@@ -96,6 +96,16 @@ public final class StandingTest {
         }
         Due.is("highest by ticks", over, 1764);
         Due.is("OVER behind 200", late.told(12), 1764);
+        // Higher still behind 201: that is not looked at.
+        EdgeEchoes later = Due.lineOf("d24 3;p2 4;p24 1;p10 6;e0 24;");
+        Due.is("OVER not behind 201", later.told(12), 66);
+        later.drive(true);
+        later.tick(1);
+        Due.is("volts behind 201", later.volts(10, 200, 0), 1003071);
+        // By 14 ohms it is over by 1, by 15 not at all.
+        EdgeEchoes one = Due.lineOf("d14 1;p31 7;e2 83;");
+        Due.is("OVER of 14", one.told(12), 1);
+        Due.is("DRIVER without any", one.told(13), 15);
         // Of like ones, the least; and the last ohms, too.
         EdgeEchoes like = Due.lineOf("d33 1;p85 2;p98 6;e0 71;");
         Due.is("DRIVER of like ones", like.told(13), 98);
