@@ -69,10 +69,13 @@ public final class BoundsStandingTest {
     private static void toldAtFirst() {
         for (Twins.Stand stand : Twins.ALL) {
             EdgeEchoes x = stand.made();
-            x.line();
-            // Trials leave much behind that a new line must not show.
-            x.sees(0, 200, 1);
-            x.told(12);
+            if (x.told(4) > 0) {
+                x.line();
+            }
+            // Trials leave much behind that a new line must not show: gates that see, and have seen much.
+            for (int g = 0; g < 6; g++) {
+                x.sees(g, 1, 1);
+            }
             int[] due = {1, 1, 3, 3, 0, 4, 5, 0, 0, 0, 0, 0};
             Due.is(stand.name + ": line", Due.told(x, "d4 5;p6 3;g3 0 1;g2 1 1;g1 2 1;"), 3);
             for (int what = 0; what < due.length; what++) {
@@ -171,11 +174,11 @@ public final class BoundsStandingTest {
     /** cell: "and 1000000 each (a million; also without such a CELL)" */
     private static void cellThatThereIsNot() {
         for (Twins.Stand stand : Twins.ALL) {
-            EdgeEchoes x = stand.made();
-            for (int i = x.told(2); i <= 71; i++) {
-                Due.is(stand.name + ": cell(" + i + ", 0)", x.cell(i, 0), 1000000);
-                Due.is(stand.name + ": cell(" + i + ", 1)", x.cell(i, 1), 1000000);
-                Due.is(stand.name + ": cell(" + i + ", 2)", x.cell(i, 2), 1000000);
+            for (int what = 0; what <= 2; what++) {
+                EdgeEchoes x = stand.made();
+                for (int i = x.told(2); i <= 71; i++) {
+                    Due.is(stand.name + ": cell(" + i + ", " + what + ")", x.cell(i, what), 1000000);
+                }
             }
         }
         // A longer line's waves are not seen beyond a shorter one.
