@@ -24,6 +24,7 @@ public final class BoundsSeenTest {
         entriesFrom0To9999();
         wrongFirst();
         tearOfAll();
+        tornForGood();
         goneWithALine();
         Due.end();
     }
@@ -350,6 +351,23 @@ public final class BoundsSeenTest {
         }
         for (int k = 1; k <= 20; k++) {
             Due.is("room to write", x.write(0, 0), k);
+        }
+    }
+
+    /** What was torn does not come again behind what is seen and written anew. */
+    private static void tornForGood() {
+        EdgeEchoes x = Due.lineOf("d10 6;p10 5;e2 10;g0 0 1;");
+        for (int k = 1; k <= 6; k++) {
+            x.see(2, 6000, true);
+            x.write(0, 7);
+        }
+        could(x, "a cut at 1", 1, 2, 2);
+        x.tear();
+        for (int k = 1; k <= 6; k++) {
+            Due.is("seen anew", x.see(150, 0, true), k);
+            could(x, "all fits what is seen anew", 8, 2, 9);
+            Due.is("written anew", x.write(0, 0), k);
+            Due.is("all is right anew", x.judge(), NONE);
         }
     }
 

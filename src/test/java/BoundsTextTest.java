@@ -15,6 +15,7 @@ public final class BoundsTextTest {
         letterBehindNumber();
         letterWhereClauseEnds();
         textThatEndsEarly();
+        shorterThanTheLast();
         blanksAnywhere();
         figures();
         boundsOfNumbers();
@@ -169,6 +170,18 @@ public final class BoundsTextTest {
             int due = length >= 12 ? 6 : 0;
             read(part, whole ? due : STRAY, whole ? NONE : length);
             read(part + "  ", whole ? due : STRAY, whole ? NONE : length + 2);
+        }
+    }
+
+    /** A text ends where it ends, whatever a longer one had there. */
+    private static void shorterThanTheLast() {
+        String text = "d12 3;p45 6;e2 78;g3 12 34;";
+        for (int length = 0; length < text.length(); length++) {
+            EdgeEchoes x = new EdgeEchoes();
+            Due.is("the whole text", Due.told(x, text), 6);
+            boolean whole = length == 0 || length == 6 || length == 12 || length == 18;
+            Due.is("its first " + length, Due.told(x, text.substring(0, length)), whole ? length >= 12 ? 6 : 0 : STRAY);
+            Due.is("fault of its first " + length, x.fault(), whole ? NONE : length);
         }
     }
 
