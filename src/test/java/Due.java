@@ -35,7 +35,7 @@ final class Due {
         return x;
     }
 
-    /** All that can be read without a trial, so that a refused call can be shown to change nothing. */
+    /** All that there is and can be read without a trial, so that a refused call can be shown to change nothing. */
     static String all(EdgeEchoes x) {
         StringBuilder s = new StringBuilder();
         for (int what = 0; what <= 11; what++) {
@@ -44,14 +44,16 @@ final class Due {
         for (int what = 15; what <= 17; what++) {
             s.append(x.told(what)).append(' ');
         }
-        for (int p = 0; p < 8; p++) {
+        int pieces = x.told(1);
+        for (int p = 0; p <= pieces; p++) {
             s.append(x.wire(p, 0)).append(' ').append(x.wire(p, 1)).append(' ').append(x.wire(p, 2)).append(' ');
         }
-        for (int i = 0; i < 72; i++) {
-            s.append(x.cell(i, 0)).append(' ').append(x.cell(i, 1)).append(' ').append(x.cell(i, 2)).append(' ');
-            s.append(x.place(i)).append(' ');
+        int cells = x.told(2);
+        for (int i = 0; i <= cells; i++) {
+            s.append(x.cell(i, 1)).append(' ').append(x.cell(i, 2)).append(' ').append(x.place(i + 1)).append(' ');
         }
-        for (int g = 0; g < 6; g++) {
+        int gates = x.told(3);
+        for (int g = 0; g <= gates; g++) {
             for (int what = 0; what <= 4; what++) {
                 s.append(x.gate(g, what)).append(' ');
             }

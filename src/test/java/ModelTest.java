@@ -33,7 +33,8 @@ public final class ModelTest {
         int left = CALLS;
         while (left > 0) {
             if (run % 8 != 7 || random.nextInt(3) == 0) {
-                left -= text(random.nextInt(6) == 0 ? spoilt(lineText()) : lineText());
+                String told = random.nextInt(6) == 0 ? spoilt(lineText()) : lineText();
+                left -= told.length() + 2 <= left ? text(told) : 0;
             }
             int span = run % 3 == 0 ? 40 : 150;
             for (int k = 0; k < span && left > 0; k++, left--) {

@@ -17,7 +17,7 @@ public final class RoomTest {
         Due.feed(x, "d0 99;p1 9;p99 9;p1 9;p99 9;p1 9;p99 9;p1 9;p99 9;e1 9;g0 71 50;g1 0 99;g2 35 1;g3 71 1;");
         x.line();
         start = made();
-        for (int k = 0; k < 12; k++) {
+        for (int k = 0; k < 8; k++) {
             everyCall(x);
         }
         long calls = made() - start;

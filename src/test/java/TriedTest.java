@@ -38,26 +38,29 @@ public final class TriedTest {
     }
 
     private static void voltsAsTicksTell() {
+        for (int what = 0; what <= 2; what++) {
+            EdgeEchoes x = onItsWay();
+            EdgeEchoes y = onItsWay();
+            int volts = y.cell(4, 0);
+            int peak = volts;
+            int least = volts;
+            for (int n = 0; n <= 200; n++) {
+                volts = y.cell(4, 0);
+                peak = Math.max(peak, volts);
+                least = Math.min(least, volts);
+                Due.is("volts(4, " + n + ", " + what + ")", x.volts(4, n, what), what == 0 ? volts : what == 1 ? peak : least);
+                y.tick(1);
+            }
+        }
+    }
+
+    private static EdgeEchoes onItsWay() {
         EdgeEchoes x = Due.lineOf("d3 9;p20 3;p70 4;p5 2;e1 1;");
-        EdgeEchoes y = Due.lineOf("d3 9;p20 3;p70 4;p5 2;e1 1;");
         x.drive(true);
         x.tick(20);
         x.drive(false);
         x.cut(5);
-        y.drive(true);
-        y.tick(20);
-        y.drive(false);
-        y.cut(5);
-        int peak = y.cell(4, 0);
-        int least = y.cell(4, 0);
-        for (int n = 0; n <= 200; n++) {
-            peak = Math.max(peak, y.cell(4, 0));
-            least = Math.min(least, y.cell(4, 0));
-            Due.is("volts(4, " + n + ", 0)", x.volts(4, n, 0), y.cell(4, 0));
-            Due.is("volts(4, " + n + ", 1)", x.volts(4, n, 1), peak);
-            Due.is("volts(4, " + n + ", 2)", x.volts(4, n, 2), least);
-            y.tick(1);
-        }
+        return x;
     }
 
     private static void rest() {
@@ -106,32 +109,37 @@ public final class TriedTest {
     }
 
     private static void sees() {
-        EdgeEchoes x = Due.lineOf(LINE);
-        EdgeEchoes y = Due.lineOf(LINE);
-        x.drive(true);
-        y.drive(true);
-        x.tick(2);
-        y.tick(2);
-        int[] was = new int[4];
         for (int g = 0; g < 4; g++) {
-            was[g] = y.gate(g, 4);
+            seesAsTicksTell(g);
         }
-        for (int n = 0; n <= 200; n++) {
-            for (int g = 0; g < 4; g++) {
-                Due.is("sees(" + g + ", " + n + ", 0)", x.sees(g, n, 0), y.gate(g, 3));
-                Due.is("sees(" + g + ", " + n + ", 1)", x.sees(g, n, 1), y.gate(g, 4) - was[g]);
-            }
-            y.tick(1);
-        }
-        Due.is("nothing passed", x.told(10), 2);
+        EdgeEchoes x = Due.lineOf(LINE);
+        x.drive(true);
+        x.tick(2);
         Due.is("a one at the end behind 1", x.sees(0, 1, 0), 1);
         Due.is("none behind 0", x.sees(0, 0, 0), 0);
+        Due.is("nothing passed", x.told(10), 2);
         Due.is("sees(4, 0, 0)", x.sees(4, 0, 0), UNKNOWN);
         Due.is("sees(-1, 999, 9)", x.sees(-1, 999, 9), UNKNOWN);
         Due.is("sees(0, -1, 0)", x.sees(0, -1, 0), OUTSIDE);
         Due.is("sees(0, 201, 0)", x.sees(0, 201, 0), OUTSIDE);
         Due.is("sees(0, 0, 2)", x.sees(0, 0, 2), OUTSIDE);
         Due.is("sees(0, 0, -1)", x.sees(0, 0, -1), OUTSIDE);
+    }
+
+    private static void seesAsTicksTell(int g) {
+        for (int what = 0; what <= 1; what++) {
+            EdgeEchoes x = Due.lineOf(LINE);
+            EdgeEchoes y = Due.lineOf(LINE);
+            x.drive(true);
+            y.drive(true);
+            x.tick(2);
+            y.tick(2);
+            int was = what == 0 ? 0 : y.gate(g, 4);
+            for (int n = 0; n <= 200; n++) {
+                Due.is("sees(" + g + ", " + n + ", " + what + ")", x.sees(g, n, what), y.gate(g, 3 + what) - was);
+                y.tick(1);
+            }
+        }
     }
 
     private static void noNoise() {
