@@ -262,6 +262,10 @@ final class DocumentLine {
         EdgeEchoes x = Sentences.high("d10 6;p10 1;e2 5;");
         x.tick(2);
         Sentences.waves(x, "of 5 OHMS", 0, 3000, -1000);
+        EdgeEchoes far = Sentences.high("d10 6;p10 9;p10 9;p10 9;p10 9;p10 9;p10 9;p10 9;p10 9;e2 5;");
+        far.tick(50);
+        far.tick(23);
+        Sentences.waves(far, "of 5 OHMS behind 72 CELLS", 71, 3000, -1000);
         onManyLines((y, was, when) -> {
             long a = was.on[was.cells - 1];
             long z = was.ohms[was.cells - 1];
@@ -417,6 +421,15 @@ final class DocumentLine {
         sees(x, 4545, 1);
         sees(x, 4545, 1);
         x.ohms(0);
+        sees(x, 5000, 1);
+        x.ohms(1);
+        sees(x, 4545, 1);
+        sees(x, 4545, 1);
+        sees(x, 4545, 0);
+        // Three ticks more, from the one behind the change on.
+        x.ohms(0);
+        sees(x, 5000, 0);
+        sees(x, 5000, 0);
         sees(x, 5000, 1);
         x.ohms(1);
         sees(x, 4545, 1);

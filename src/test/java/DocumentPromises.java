@@ -158,6 +158,8 @@ final class DocumentPromises {
         x.see(2, 99000, true);
         x.write(0, 9);
         x.write(1, 9);
+        // Trials leave nothing behind either: not a wave, not what a gate sees.
+        x.sees(1, 1, 1);
         return x;
     }
 
@@ -813,6 +815,7 @@ final class DocumentPromises {
         Sentences.is("nothing is wrong", x.judge(), NONE);
         Sentences.is("again", x.tear(), 0);
         Sentences.is("see anew", x.see(1, 0, true), 1);
+        Sentences.is("what was torn does not come again", x.couldBe(0), 8);
         Sentences.is("write anew", x.write(0, 0), 1);
         Sentences.is("both", x.tear(), 2);
         Sentences.is("no deed", x.told(17), 12);

@@ -147,6 +147,14 @@ final class DocumentText {
         Sentences.read("d1 1", -11, 4);
         Sentences.read("d1 1;p   ", -11, 9);
         Sentences.read(" ".repeat(239) + "d", -11, 240);
+        // The end is where this text ends, whatever a longer one had there.
+        String text = "d12 3;p45 6;e2 78;g3 12 34;";
+        for (int length = 1; length < text.length(); length++) {
+            EdgeEchoes x = Due.lineOf(text);
+            boolean whole = length == 6 || length == 12 || length == 18;
+            Sentences.is("its first " + length, Due.told(x, text.substring(0, length)), whole ? length / 12 * 6 : -11);
+            Sentences.is("fault of its first " + length, x.fault(), whole ? NONE : length);
+        }
         Sentences.says("of these the least:");
         // One letter that has two: it cannot stand there, and it is the first of a bad number, or a word again.
         Sentences.read("d1 1 1000;", -11, 5);

@@ -123,6 +123,14 @@ final class DocumentTried {
         Sentences.is("20 below", Sentences.high("d50 2;p50 2;e2 48;").rest(0), 1);
         Sentences.is("never", Sentences.high("d0 6;p9 1;").rest(0), 200);
         Sentences.is("always", Due.lineOf("d0 6;p9 1;").rest(0), 0);
+        EdgeEchoes still = Sentences.high("d10 6;p10 4;");
+        still.tick(20);
+        Sentences.is("always, with VOLTS", still.rest(0), 0);
+        Sentences.is("these", still.cell(0, 0), 1006000);
+        EdgeEchoes falls = Sentences.high("d0 6;p9 1;e2 9;");
+        falls.tick(1);
+        falls.drive(false);
+        Sentences.is("from the next tick on", falls.rest(0), 1);
     }
 
     private static void seesFirstDeceived() {
@@ -210,6 +218,7 @@ final class DocumentTried {
             Sentences.is(text + " OVER", Due.lineOf(text).told(12), overByTicks(text, Due.lineOf(text).told(5)));
         }
         Sentences.is("all of S, twice", Due.lineOf("d0 7;p30 4;").told(12), 7000);
+        Sentences.is("one CELL", Due.lineOf("d0 99;p30 1;").told(12), 99000);
         Sentences.is("0 at least", Due.lineOf("d50 7;p30 4;e1 1;").told(12), 0);
         // The highest comes behind 200; then one that would come behind 201.
         Sentences.is("behind 200", Due.lineOf("d7 9;p98 5;p1 8;e0 27;").told(12), 1764);
@@ -218,7 +227,7 @@ final class DocumentTried {
 
     private static void driver() {
         Sentences.says("DRIVER: the R (0 .. 99) by which OVER is least; of like ones the least.");
-        String[] lines = {"d33 1;p85 2;p98 6;e0 71;", "d0 7;p30 4;", "d9 9;p99 3;", "d9 9;p40 2;p20 3;e2 90;"};
+        String[] lines = {"d33 1;p85 2;p98 6;e0 71;", "d0 7;p30 4;", "d9 9;p99 3;", "d14 1;p31 7;e2 83;"};
         for (String text : lines) {
             int best = 0;
             int least = overByTicks(text, 0);
@@ -234,6 +243,8 @@ final class DocumentTried {
         Sentences.is("98 and 99 are alike", Due.lineOf(lines[0]).told(13), 98);
         Sentences.is("as the wire", Due.lineOf(lines[1]).told(13), 30);
         Sentences.is("the greatest", Due.lineOf(lines[2]).told(13), 99);
+        Sentences.is("by 14 it is over by 1", Due.lineOf(lines[3]).told(12), 1);
+        Sentences.is("by 15 not at all", Due.lineOf(lines[3]).told(13), 15);
         Sentences.is("all alike", Due.lineOf("d9 9;p40 2;e1 1;").told(13), 0);
     }
 
@@ -374,7 +385,10 @@ final class DocumentTried {
             }
             Sentences.is(text + " LOOK", Due.lineOf(text).look(), best);
         }
-        EdgeEchoes x = Due.lineOf("d10 6;p10 9;p10 9;p10 9;p10 9;e2 10;");
+        // Of like ohms throughout: a cut or a short at i tells behind 2 times i ticks, for good, so later is better.
+        EdgeEchoes x = Due.lineOf("d10 6;p10 9;p10 9;p10 9;p10 9;p10 9;p10 9;p10 9;p10 9;e2 10;");
+        could(x, "142 of them", 142, 2, 143);
+        Sentences.is("142 of them", x.look(), 60);
         x.see(58, 3001, false);
         x.see(62, 6000, true);
         could(x, "a cut at 30 or 31", 2, 60, 62);
