@@ -814,7 +814,7 @@ final class DocumentPromises {
         Sentences.is("all fits", x.couldBe(0), 8);
         Sentences.is("nothing is wrong", x.judge(), NONE);
         Sentences.is("again", x.tear(), 0);
-        Sentences.is("see anew", x.see(1, 0, true), 1);
+        Sentences.is("see anew", x.see(150, 99000, false), 1);
         Sentences.is("what was torn does not come again", x.couldBe(0), 8);
         Sentences.is("write anew", x.write(0, 0), 1);
         Sentences.is("both", x.tear(), 2);

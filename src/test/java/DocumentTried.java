@@ -538,6 +538,28 @@ final class DocumentTried {
         return s.toString();
     }
 
+    private static void noDeeds(EdgeEchoes x) {
+        x.feed('x');
+        x.line();
+        x.fault();
+        x.told(13);
+        x.wire(0, 0);
+        x.cell(0, 0);
+        x.place(1);
+        x.gate(0, 5);
+        x.volts(0, 9, 1);
+        x.rest(0);
+        x.sees(0, 9, 1);
+        x.noNoise(9, 9);
+        x.see(9, 9, true);
+        x.couldBe(0);
+        x.look();
+        x.write(0, 9);
+        x.judge();
+        x.tear();
+        x.seed(9);
+    }
+
     private static void undone() {
         Sentences.says("UNDONE: the latest deeds (tick(), drive(), cut(), brief(), mend(), piece(), end(), ohms(), quiet(), "
             + "drift()) since the text or IMAGE (12 at most are kept): all of section 2 is as ahead of them; THE SEED stays.");
@@ -555,6 +577,12 @@ final class DocumentTried {
             Sentences.holds("as ahead of the latest " + n, sectionTwo(x).equals(ahead[10 - n]));
             Sentences.is("THE SEED", x.seed(0), seed);
         }
+        EdgeEchoes other = Due.lineOf(TEN);
+        other.tick(7);
+        noDeeds(other);
+        Sentences.is("other calls are no deeds", other.told(17), 1);
+        Sentences.is("undo(1)", other.undo(1), 0);
+        Sentences.is("undoing is none", other.told(17), 0);
         EdgeEchoes many = Due.lineOf("d0 1;p1 1;");
         for (int k = 1; k <= 20; k++) {
             many.ohms(k);

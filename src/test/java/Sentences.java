@@ -17,6 +17,10 @@ final class Sentences {
 
     /** The terms and the promises, without headings and without the heads of the calls (LanguageTest has those). */
     static void open(Path path) throws IOException {
+        if (!Files.exists(path)) {
+            System.out.println("there is no " + path + " here: what is quoted is not compared with it");
+            return;
+        }
         String text = Files.readString(path);
         int first = text.indexOf("## Terms");
         int last = text.indexOf("## Not promised");
@@ -35,6 +39,9 @@ final class Sentences {
         Due.holds("something is asked about '" + words + "'", asked > 0);
         words = quote;
         asked = 0;
+        if (document.isEmpty()) {
+            return;
+        }
         int at = document.indexOf(quote, cursor);
         boolean goesOn = at >= 0 && isBetweenWords(document.substring(cursor, at));
         if (!goesOn) {
