@@ -22,7 +22,7 @@ public final class ReadmeTest {
         Due.is("calls told", made, Pattern.compile("(?m)^x\\.").matcher(readme).results().count());
         for (Method m : EdgeEchoes.class.getDeclaredMethods()) {
             if (java.lang.reflect.Modifier.isPublic(m.getModifiers())) {
-                Due.holds("the README names " + m.getName(), readme.contains("`" + m.getName() + "`"));
+                Due.holds("the README names " + m.getName(), readme.contains("`" + m.getName() + "("));
             }
         }
         Due.end();

@@ -2,6 +2,7 @@ import java.io.IOException;
 import java.nio.file.Files;
 import java.nio.file.Path;
 import java.util.ArrayList;
+import java.util.Comparator;
 import java.util.List;
 import java.util.concurrent.ExecutorService;
 import java.util.concurrent.Executors;
@@ -9,6 +10,7 @@ import java.util.concurrent.Future;
 import java.util.concurrent.TimeUnit;
 import java.util.regex.Matcher;
 import java.util.regex.Pattern;
+import java.util.stream.Stream;
 
 /**
  * Tries the tests: changes the class in one small way after another and tells which changes no test notices.
@@ -54,6 +56,7 @@ public final class Mutants {
             }
         }
         pool.shutdown();
+        delete(work);
         System.out.println(mutants.size() + " changes, " + unnoticed + " not noticed by " + tests);
     }
 
@@ -67,6 +70,7 @@ public final class Mutants {
             String path = own + ":" + work.resolve("tests");
             noticed = run(SECONDS, own, "java", "-XX:TieredStopAtLevel=1", "-cp", path, tests.get(k), SOURCE.toString()) != 0;
         }
+        delete(own);
         return noticed ? "" : "line " + mutant.line + ": " + mutant.change;
     }
 
@@ -80,6 +84,14 @@ public final class Mutants {
             return 1;
         }
         return process.exitValue();
+    }
+
+    private static void delete(Path path) throws IOException {
+        try (Stream<Path> files = Files.walk(path)) {
+            for (Path file : files.sorted(Comparator.reverseOrder()).toList()) {
+                Files.delete(file);
+            }
+        }
     }
 
     private static List<Mutant> all(List<String> lines) {
