@@ -19,6 +19,7 @@ import java.util.stream.Stream;
 public final class Mutants {
     private static final Path SOURCE = Path.of("src/main/java/EdgeEchoes.java");
     private static final int SECONDS = 120;
+    private static final String DOES_NOT_COMPILE = "does not compile";
     private static final String[][] CHANGES = {
         {"(?<![<>=!-])<(?![<=>])", "<="}, {"(?<![<>-])<=", "<"}, {"(?<![<>-])>(?![>=])", ">="}, {"(?<![<>-])>=", ">"},
         {"==", "!="}, {"!=", "=="}, {"&&", "||"}, {"\\|\\|", "&&"}, {" \\+ ", " - "}, {" - ", " + "}, {" \\* ", " + "},
@@ -48,24 +49,32 @@ public final class Mutants {
             found.add(pool.submit(() -> tried(mutant, own, work, tests)));
         }
         int unnoticed = 0;
+        int broken = 0;
         for (Future<String> future : found) {
             String told = future.get();
-            if (!told.isEmpty()) {
+            if (told.equals(DOES_NOT_COMPILE)) {
+                broken++;
+            } else if (!told.isEmpty()) {
                 unnoticed++;
                 System.out.println(told);
             }
         }
         pool.shutdown();
         delete(work);
-        System.out.println(mutants.size() + " changes, " + unnoticed + " not noticed by " + tests);
+        System.out.println(mutants.size() + " changes, of which " + broken + " do not compile, and " + unnoticed
+            + " are not noticed by " + tests);
     }
 
-    /** Empty, if the change does not compile, or if a test notices it. */
+    /** Empty, if a test notices the change. */
     private static String tried(Mutant mutant, Path own, Path work, List<String> tests) throws Exception {
         Files.createDirectories(own);
         Path file = own.resolve("EdgeEchoes.java");
         Files.writeString(file, mutant.text);
-        boolean noticed = run(SECONDS, own, "javac", "-d", own.toString(), file.toString()) != 0;
+        if (run(SECONDS, own, "javac", "-d", own.toString(), file.toString()) != 0) {
+            delete(own);
+            return DOES_NOT_COMPILE;
+        }
+        boolean noticed = false;
         for (int k = 0; k < tests.size() && !noticed; k++) {
             String path = own + ":" + work.resolve("tests");
             noticed = run(SECONDS, own, "java", "-XX:TieredStopAtLevel=1", "-cp", path, tests.get(k), SOURCE.toString()) != 0;
